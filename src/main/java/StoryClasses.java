@@ -379,7 +379,7 @@ public final class StoryClasses {
                 case TELL_OWN: answer = own; return isCrate() ? 0 : Fault.CAST;
                 case SET_MARK: answer = mark; mark = n; return 0;
                 case SET_CRATE: return isCrate() ? changeOwn(n) : Fault.CAST;
-                default: return kind == LANTERN ? changeOwn(n) : Fault.CAST;
+                case SET_LANTERN: default: return kind == LANTERN ? changeOwn(n) : Fault.CAST;
             }
         }
 
@@ -673,14 +673,12 @@ public final class StoryClasses {
             asideFault = new Fault();
         }
 
-        /** The ROUTINE has OPS. */
         void begin(int newNumber, Routine newRoutine) {
             number = newNumber;
             routine = newRoutine;
             Arrays.fill(locals, 0L);
             laid = 0;
             lastBegan = false;
-            goTo(0);
         }
 
         /** False: there is no OP at that place. */
@@ -795,9 +793,11 @@ public final class StoryClasses {
             keepings = 0;
         }
 
+        /** The ROUTINE has OPS, and there is a frame left. */
         private Frame openFrame(int number, Routine routine) {
             Frame f = frames[open];
             f.begin(number, routine);
+            f.goTo(0);
             open++;
             mostOpen = Math.max(mostOpen, open);
             return f;
@@ -872,8 +872,12 @@ public final class StoryClasses {
                 case Op.SHELVE: return shelve(f);
                 case Op.LOOK: return look(f);
                 case Op.PRINT: print(f.x); return 0;
-                case Op.KEEP: return keep(f);
-                default: f.answer = story.bringBack() ? 1 : 0; return 0;
+                case Op.KEEP:
+                    if (keepings >= MOST_KEEPINGS || !story.keep()) return Fault.ARGUMENT;
+                    keepings++;
+                    f.answer = story.keptCount;
+                    return 0;
+                case Op.BRING_BACK: default: f.answer = story.bringBack() ? 1 : 0; return 0;
             }
         }
 
@@ -965,10 +969,10 @@ public final class StoryClasses {
 
         private int shelve(Frame f) {
             Thing thing = story.thingAt(f.x);
-            Thing put = story.thingAt(f.z);
-            if (thing == null || put == null && f.z != NONE) return Fault.NOTHING;
+            Thing other = story.thingAt(f.z);
+            if (thing == null || other == null && f.z != NONE) return Fault.NOTHING;
             if (!thing.hasPlace(f.y)) return Fault.INDEX;
-            if (put != null && !thing.hasPlaceFor(put)) return Fault.STORE;
+            if (other != null && !thing.hasPlaceFor(other)) return Fault.STORE;
             thing.place(f.y, (int) f.z);
             return 0;
         }
@@ -985,13 +989,6 @@ public final class StoryClasses {
             if (outputCount >= MOST_OUTPUTS) return;
             outputs[outputCount] = x;
             outputCount++;
-        }
-
-        private int keep(Frame f) {
-            if (keepings >= MOST_KEEPINGS || !story.keep()) return Fault.ARGUMENT;
-            keepings++;
-            f.answer = story.keptCount;
-            return 0;
         }
     }
 }

@@ -69,7 +69,10 @@ final class KeepTest {
         x.share(5, 0);
         x.row(2, 6, 1);
         x.put(2, 0, 16777217);
+        x.row(3, 3, 2);
+        x.put(3, 1, -1);
         x.run(keep, 0, 0);
+        x.row(3, 4, 9);
         x.put(0, 1, 12);
         x.row(5, 1, 2);
         x.miss(2);
@@ -79,6 +82,9 @@ final class KeepTest {
         Due.due("as one", x.about(5, 2), 0);
         Due.due("a float", x.item(2, 0), 16777216);
         Due.due("missing", x.about(7, 0), StoryClasses.NONE);
+        Due.due("how many items", x.about(3, 0), 2);
+        Due.due("a lane", x.about(3, 1), 3);
+        Due.due("a sign", x.item(3, 1), 65535);
         x.put(5, 1, 13);
         Due.due("it is one", x.item(0, 1), 13);
     }

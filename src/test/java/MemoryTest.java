@@ -100,6 +100,9 @@ final class MemoryTest {
             x.put(r, 11, 100 + r);
         }
         for (int r = 0; r < 12; r++) Due.due("row " + r, x.item(r, 11), 100 + r);
+        x.row(3, 1, 12);
+        x.put(3, 11, 103);
+        for (int r = 0; r < 12; r++) Due.due("row " + r, x.item(r, 11), 100 + r);
         for (int r = 1; r < 12; r++) x.share(r, 0);
         x.row(0, 5, 12);
         x.put(0, 11, 7);

@@ -123,6 +123,8 @@ final class RunTest {
         Due.due("guarded", x.run(self, 0, 0), 0);
         Due.due("guarded", x.result(), 0);
         told("guarded", x, 0, NONE, NONE, 48 + 2 + 11, 1, 1, 0, 12);
+        Due.gives("the next run", x, Due.tell(x, 1, 0, 1, 0, 20, 0, 0), 1);
+        told("the next run", x, 0, NONE, NONE, 2, 0, 0, 0, 1);
     }
 
     private static void guards() {
@@ -198,6 +200,9 @@ final class RunTest {
         Due.due("it was done", x.output(0), 8);
         x.guard(leaves, 4, 5, 0, 2);
         Due.faults("no guard is asked at a leave", x, leaves, OWN, 1);
+        int returns = Due.tell(x, 1, 0, 3, 0, 20, 0, 0, 22, 0, 0);
+        x.last(returns, 2);
+        Due.gives("nothing of that is put aside in the next run", x, returns, 3);
         int refused = Due.tell(x, 1, 0, 9, 0, 21, 0, 0, 22, 0, 0);
         x.guard(refused, 1, 2, 0, 2);
         Due.faults("a handler's leave, when last has not begun", x, refused, BEHIND, 2);
