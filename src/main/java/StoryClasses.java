@@ -662,8 +662,8 @@ public final class StoryClasses {
         long z;
         /** What the OP lays; with OWN, what was thrown. */
         long answer;
-        /** What is put aside for LEAVE: the FAULT, or if that has no CODE what is RETURNED. */
         boolean lastBegan;
+        /** What is put aside for LEAVE: the FAULT, or if that has no CODE what is RETURNED. */
         final Fault asideFault;
         long asideResult;
 
@@ -827,7 +827,7 @@ public final class StoryClasses {
             faults++;
         }
 
-        /** Brings the FAULT from ROUTINE to ROUTINE, until one goes on with it or all have ended. */
+        /** Brings the FAULT outward, until a ROUTINE goes on with it or all have ended. */
         private void carryOut() {
             while (open > 0) {
                 Frame f = frames[open - 1];
