@@ -23,8 +23,7 @@ final class RoomTest {
         StoryClasses x = new StoryClasses();
         for (int t = 0; t < 12; t++) x.thing(t % 6);
         // Keeps, makes rows, brings back, and calls itself until that is too deep, again and again.
-        int dear = Due.tell(x, 1, 27, 0, 0, 0, 12, 0, 15, 3, 7, 28, 0, 0, 0, 5, 0, 19, 0, 1, 20, 0, 0,
-            2, 0, 0, 10, 1, 0);
+        int dear = Due.tell(x, 1, "27; 0 12; 15 3 7; 28; 0 5; 19 0 1; 20; 2 0; 10 1");
         x.guard(dear, 0, 6, 0, 7);
         x.run(dear, 0, 0);
         long before = bytes();

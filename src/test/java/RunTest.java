@@ -1,270 +1,220 @@
-/** Promises 14 to 18: run, result, told, number, output; GUARDS and LASTS (term 4). */
+/** Promises 14 to 18: run, result, told, number, output. */
 final class RunTest {
     private static final int BAD = StoryClasses.BAD, NONE = StoryClasses.NONE;
-    private static final int ZERO = 6, DEEP = 9, BEHIND = 10, OWN = 11, NOTHING = 1;
+    private static final int PILE = 8, BEHIND = 10, OWN = 11;
+    private static final int MAX = Integer.MAX_VALUE, MIN = Integer.MIN_VALUE;
+    private static final long MOST = Long.MAX_VALUE, LEAST = Long.MIN_VALUE;
 
     private RunTest() { }
 
     public static void main(String[] args) {
-        refused();
-        locals();
-        spentBySteps();
-        behindAtTheLastStep();
-        spentByFaults();
-        deep();
-        guards();
-        guardsAtCalls();
-        lastAfterReturn();
-        lastAfterFault();
-        lastReplaces();
-        lastThatCannot();
-        lastPerOpening();
-        lastBetweenCalls();
+        run();
+        runOutput();
+        runBad();
+        result();
+        toldOfTheFault();
+        toldOfTheRun();
+        toldBeforeAny();
+        toldBad();
+        number();
+        output();
         Due.end();
     }
 
-    private static void told(String what, StoryClasses x, int... want) {
-        for (int k = 0; k < want.length; k++) Due.due(what + ": told " + k, x.told(k), want[k]);
+    /** ROUTINE 0 RETURNS LOCAL 0, 1 throws it, 2 is SPENT, 3 has no OPS; all but 3 put it out. */
+    private static StoryClasses three() {
+        StoryClasses x = new StoryClasses();
+        Due.tell(x, 1, "1 0; 26; 1 0; 20");
+        Due.tell(x, 1, "1 0; 26; 1 0; 21");
+        Due.tell(x, 1, "1 0; 26; 10 2");
+        x.routine(6);
+        return x;
     }
 
-    private static void refused() {
-        StoryClasses x = new StoryClasses();
-        int fails = Due.tell(x, 1, 0, 5, 0, 26, 0, 0, 0, 9, 0, 21, 0, 0);
-        int empty = x.routine(1);
-        Due.due("by a fault", x.run(fails, 0, 0), 1);
-        for (int k = -1; k < 3; k++) {
-            if (k != fails) Due.due("refused", x.run(k, 0, 0), BAD);
+    private static void run() {
+        Due.says("Promise 14", "A RUN: 0 it ENDED by a RETURN, 1 by a FAULT, 2 it is SPENT.");
+        StoryClasses x = three();
+        for (int k = 0; k < 3; k++) Due.due("routine " + k, x.run(k, 7, 8), k);
+        for (int k = 2; k >= 0; k--) Due.due("routine " + k, x.run(k, MOST, LEAST), k);
+        StoryClasses y = new StoryClasses();
+        for (int k = 0; k < 11; k++) y.routine(1);
+        Due.tell(y, 1, "0 1; 20");
+        Due.due("the last routine", y.run(11, 0, 0), 0);
+    }
+
+    private static void runOutput() {
+        Due.says("Promise 14", "(THE OUTPUT is empty as it begins.)");
+        StoryClasses x = three();
+        int silent = Due.tell(x, 1, "0 0; 20");
+        for (int k = 0; k < 3; k++) {
+            x.run(k, 7, 8);
+            Due.due("one number", x.count(3, 0), 1);
+            Due.due("one number", x.output(0), 7);
+            x.run(k, 9, 8);
+            Due.due("one number again", x.count(3, 0), 1);
+            Due.due("another one", x.output(0), 9);
+            x.run(silent, 0, 0);
+            Due.due("empty", x.count(3, 0), 0);
+            Due.due("empty", x.output(0), 0);
         }
-        Due.due("no ops", x.run(empty, 0, 0), BAD);
-        told("as before", x, OWN, fails, 3, 4, 1, 0, 0, 1);
-        Due.due("as before", x.number(), 9);
-        Due.due("as before", x.output(0), 5);
-        Due.due("told above", x.told(8), BAD);
-        Due.due("told below", x.told(-1), BAD);
-        Due.gives("a return", x, Due.tell(x, 1, 0, 3, 0, 20, 0, 0), 3);
-        told("anew", x, 0, NONE, NONE, 2, 0, 0, 0, 1);
-        Due.due("anew", x.number(), 0);
-        x.run(fails, 0, 0);
-        Due.due("returned nothing", x.result(), 0);
     }
 
-    private static void locals() {
+    private static void runBad() {
+        Due.says("Promise 14", "BAD: no such ROUTINE, or it has no OPS.");
+        StoryClasses x = three();
+        x.run(1, 9, 0);
+        for (int k : new int[] {MIN, -1, 3, 4, 12, MAX}) {
+            Due.due("routine " + k, x.run(k, 5, 6), BAD);
+            Due.told("as before", x, OWN, 1, 3, 4, 1, 0, 0, 1);
+            Due.due("as before: number", x.number(), 9);
+            Due.due("as before: output", x.output(0), 9);
+        }
+        Due.more(x, 3, "0 1; 20");
+        Due.due("now it has", x.run(3, 0, 0), 0);
+    }
+
+    private static void result() {
+        Due.says("Promise 15", "What the latest RUN RETURNED;");
+        StoryClasses x = three();
+        for (long v : new long[] {5, -1, MOST, LEAST}) {
+            x.run(0, v, 0);
+            Due.due("returned", x.result(), v);
+            Due.due("asked again", x.result(), v);
+        }
+        x.run(3, 0, 0);
+        Due.due("a refused run is none", x.result(), LEAST);
+        Due.says("Promise 15", "0: nothing.");
+        x.run(1, 5, 0);
+        Due.due("by a fault", x.result(), 0);
+        x.run(0, 5, 0);
+        x.run(2, 5, 0);
+        Due.due("spent", x.result(), 0);
+        Due.due("before any", new StoryClasses().result(), 0);
+        // Put aside, but a FAULT came in its place.
+        int spoilt = Due.tell(x, 1, "0 4; 20; 22; 26");
+        x.last(spoilt, 3);
+        Due.faults("put aside", x, spoilt, PILE, 3);
+        // What was called RETURNED, the RUN did not.
+        Due.faults(x, "0 4; 19 0 1", BEHIND, 1);
+    }
+
+    private static void toldOfTheFault() {
+        Due.says("Promise 16", "Of the latest RUN: 0 the CODE of the FAULT by which it ended (0: none),");
+        StoryClasses x = three();
+        int[] codes = {0, OWN, 0};
+        for (int k = 0; k < 3; k++) {
+            x.run(1, 3, 0);
+            x.run(k, 3, 0);
+            Due.due("code of " + k, x.told(0), codes[k]);
+        }
+        int taken = Due.tell(x, 1, "22; 0 1; 20");
+        x.guard(taken, 0, 1, 0, 1);
+        Due.due("run", x.run(taken, 0, 0), 0);
+        Due.due("one that was taken", x.told(0), 0);
+        Due.says("Promise 16", "1 the ROUTINE, 2 the place at which that came first (NONE both),");
+        for (int k = 0; k < 3; k++) {
+            x.run(1, 3, 0);
+            x.run(k, 3, 0);
+            Due.due("routine of " + k, x.told(1), k == 1 ? 1 : NONE);
+            Due.due("place of " + k, x.told(2), k == 1 ? 3 : NONE);
+        }
+        int calls = Due.tell(x, 1, "0 1; 0 2; 19 1 1; 20; 22");
+        x.last(calls, 4);
+        Due.due("run", x.run(calls, 0, 0), 1);
+        Due.told("not where it came on, nor where it was left with", x, OWN, 1, 3);
+        // The handler throws again: that is another FAULT.
+        int again = Due.tell(x, 1, "0 1; 21; 21");
+        x.guard(again, 1, 2, 0, 2);
+        Due.faults("another one", x, again, OWN, 2);
+        Due.due("its number is the code before", x.number(), OWN);
+    }
+
+    private static void toldOfTheRun() {
         StoryClasses x = new StoryClasses();
-        int two = Due.tell(x, 3, 1, 0, 0, 1, 1, 0, 4, 0, 0, 1, 2, 0, 3, 0, 0, 20, 0, 0);
-        x.run(two, Long.MAX_VALUE, 7);
-        Due.due("locals 0 and 1", x.result(), Long.MAX_VALUE - 7);
-        int one = Due.tell(x, 1, 1, 0, 0, 20, 0, 0);
-        x.run(one, 4, 7);
-        Due.due("local 0 alone", x.result(), 4);
+        int inner = Due.tell(x, 1, "0 3; 21; 22");
+        x.last(inner, 2);
+        int outer = Due.tell(x, 1, "19 " + inner + " 0; 20; 19 " + inner + " 0; 20");
+        x.guard(outer, 0, 1, OWN, 2);
+        Due.due("run", x.run(outer, 0, 0), 1);
+        Due.says("Promise 16", "3 STEPS,");
+        Due.due("steps", x.told(3), 8);
+        Due.says("Promise 16", "4 FAULTS,");
+        Due.due("faults", x.told(4), 2);
+        Due.says("Promise 16", "5 how many GUARDS took,");
+        Due.due("guards", x.told(5), 1);
+        Due.says("Promise 16", "6 how often a LAST BEGAN,");
+        Due.due("lasts", x.told(6), 2);
+        Due.says("Promise 16", "7 the most ROUTINES that were open.");
+        Due.due("open", x.told(7), 2);
+        int three = Due.tell(x, 1, "19 3 0; 26; 19 3 0; 20");
+        Due.tell(x, 1, "0 1; 20");
+        Due.due("run", x.run(three, 0, 0), 0);
+        Due.due("two at once", x.told(7), 2);
+        int self = Due.tell(x, 1, "19 4 0");
+        Due.due("run", x.run(self, 0, 0), 1);
+        Due.due("twelve", x.told(7), 12);
+        Due.due("run", x.run(3, 0, 0), 0);
+        Due.told("anew", x, 0, NONE, NONE, 2, 0, 0, 0, 1);
     }
 
-    private static void spentBySteps() {
+    private static void toldBeforeAny() {
+        Due.says("Promise 16", "0 (1, 2 NONE) before any.");
         StoryClasses x = new StoryClasses();
-        int keep = Due.tell(x, 1, 27, 0, 0, 26, 0, 0, 10, 2, 0);
-        Due.due("spent", x.run(keep, 0, 0), 2);
-        told("spent", x, 0, NONE, NONE, 300, 0, 0, 0, 1);
-        Due.due("returned nothing", x.result(), 0);
-        Due.due("what was done stays", x.count(2, 0), 1);
-        Due.due("what was done stays", x.output(0), 1);
-        Due.due("295 steps", x.run(rounds(x, 0), 42, 5), 0);
-        Due.due("295 steps", x.told(3), 295);
-        Due.due("300 steps", x.run(rounds(x, 5), 42, 5), 0);
-        Due.due("300 steps", x.told(3), 300);
-        Due.due("300 steps", x.result(), 5);
-        Due.due("301 would be", x.run(rounds(x, 6), 42, 5), 2);
-        Due.due("300 are begun", x.told(3), 300);
+        Due.told("new", x, 0, NONE, NONE, 0, 0, 0, 0, 0);
+        StoryClasses y = three();
+        y.run(3, 0, 0);
+        Due.told("a refused run is none", y, 0, NONE, NONE, 0, 0, 0, 0, 0);
     }
 
-    /** RETURNS LOCAL 1 after LOCAL 0 rounds of seven OPS, of which the last has six, and more. */
-    private static int rounds(StoryClasses x, int more) {
-        int routine = x.routine(2);
-        for (int k = 0; k < more; k++) x.op(routine, 10, k + 1, 0);
-        Due.more(x, routine, 1, 0, 0, 0, 1, 0, 4, 0, 0, 2, 0, 0, 1, 0, 0, 11, more + 7, 0,
-            10, more, 0, 1, 1, 0, 20, 0, 0);
-        return routine;
+    private static void toldBad() {
+        Due.says("Promise 16", "BAD.");
+        StoryClasses x = three();
+        for (int k = -1; k < 3; k++) {
+            x.run(k, 0, 0);
+            for (int what : new int[] {MIN, -1, 8, MAX}) Due.due("told " + what, x.told(what), BAD);
+        }
     }
 
-    private static void behindAtTheLastStep() {
+    private static void number() {
+        Due.says("Promise 17", "The NUMBER of that FAULT;");
+        StoryClasses x = three();
+        for (long v : new long[] {5, -1, MOST, LEAST}) {
+            x.run(1, v, 0);
+            Due.due("thrown", x.number(), v);
+        }
+        Due.says("Promise 17", "0.");
+        Due.faults(x, "26", PILE, 0);
+        Due.due("of another", x.number(), 0);
+        x.run(1, 5, 0);
+        x.run(0, 6, 0);
+        Due.due("of none", x.number(), 0);
+        x.run(1, 5, 0);
+        x.run(2, 6, 0);
+        Due.due("spent", x.number(), 0);
+        int spent = Due.tell(x, 1, "0 5; 21");
+        x.guard(spent, 0, 2, 0, 0);
+        Due.due("spent by faults", x.run(spent, 0, 0), 2);
+        Due.due("spent by faults", x.number(), 0);
+        Due.due("before any", new StoryClasses().number(), 0);
+    }
+
+    private static void output() {
+        Due.says("Promise 18", "Number i of THE OUTPUT.");
         StoryClasses x = new StoryClasses();
-        int exact = x.routine(1);
-        for (int k = 0; k < 6; k++) x.op(exact, 10, k + 1, 0);
-        Due.more(x, exact, 1, 0, 0, 0, 1, 0, 4, 0, 0, 2, 0, 0, 1, 0, 0, 11, 13, 0, 10, 6, 0,
-            10, 29, 0);
-        Due.due("behind at step 300", x.run(exact, 42, 0), 1);
-        told("behind at step 300", x, BEHIND, exact, 13, 300, 1, 0, 0, 1);
-        x.guard(exact, 13, 14, 0, 0);
-        Due.due("taken, but 301 would be", x.run(exact, 42, 0), 2);
-        told("taken, but 301 would be", x, 0, NONE, NONE, 300, 1, 1, 0, 1);
-    }
-
-    private static void spentByFaults() {
-        StoryClasses x = new StoryClasses();
-        int again = Due.tell(x, 1, 22, 0, 0);
-        x.guard(again, 0, 1, 0, 0);
-        Due.due("spent", x.run(again, 0, 0), 2);
-        told("spent", x, 0, NONE, NONE, 25, 25, 24, 0, 1);
-        Due.due("no number", x.number(), 0);
-        // A FAULT that comes on at a CALL is not counted again.
-        StoryClasses y = new StoryClasses();
-        int inner = Due.tell(y, 1, 22, 0, 0);
-        int outer = Due.tell(y, 1, 19, inner, 0);
-        y.guard(outer, 0, 1, BEHIND, 0);
-        Due.due("spent", y.run(outer, 0, 0), 2);
-        told("spent", y, 0, NONE, NONE, 50, 25, 24, 0, 2);
-    }
-
-    private static void deep() {
-        StoryClasses x = new StoryClasses();
-        int self = Due.tell(x, 1, 1, 0, 0, 0, 1, 0, 3, 0, 0, 19, 0, 1, 20, 0, 0,
-            2, 0, 0, 20, 0, 0);
-        Due.due("deep", x.run(self, 0, 0), 1);
-        told("deep", x, DEEP, self, 3, 48, 1, 0, 0, 12);
-        x.guard(self, 3, 4, DEEP, 5);
-        Due.due("guarded", x.run(self, 0, 0), 0);
-        Due.due("guarded", x.result(), 0);
-        told("guarded", x, 0, NONE, NONE, 48 + 2 + 11, 1, 1, 0, 12);
-        Due.gives("the next run", x, Due.tell(x, 1, 0, 1, 0, 20, 0, 0), 1);
-        told("the next run", x, 0, NONE, NONE, 2, 0, 0, 0, 1);
-    }
-
-    private static void guards() {
-        StoryClasses x = new StoryClasses();
-        int own = Due.tell(x, 1, 0, 9, 0, 0, 77, 0, 21, 0, 0,
-            26, 0, 0, 26, 0, 0, 26, 0, 0, 0, 1, 0, 20, 0, 0);
-        x.guard(own, 0, 2, 0, 6);
-        x.guard(own, 2, 3, ZERO, 6);
-        x.guard(own, 2, 3, OWN, 29);
-        x.guard(own, 2, 3, OWN, 3);
-        Due.faults("the pile is emptied", x, own, 8, 5);
-        Due.due("code is laid last", x.output(0), OWN);
-        Due.due("number before it", x.output(1), 77);
-        told("taken", x, 8, own, 5, 6, 2, 1, 0, 1);
-        StoryClasses y = new StoryClasses();
-        int first = Due.tell(y, 1, 22, 0, 0, 0, 1, 0, 20, 0, 0, 0, 2, 0, 20, 0, 0);
-        y.guard(first, 0, 30, 0, 3);
-        y.guard(first, 0, 30, BEHIND, 1);
-        Due.gives("the first guard", y, first, 2);
-        StoryClasses z = new StoryClasses();
-        int behind = Due.tell(z, 1, 0, 1, 0, 20, 0, 0, 10, 4, 0, 10, 20, 0, 0, 8, 0, 10, 0, 0);
-        z.guard(behind, 3, 4, BEHIND, 0);
-        Due.gives("not reached", z, behind, 1);
-        int wide = Due.tell(z, 1, 10, 20, 0, 0, 8, 0, 20, 0, 0);
-        z.guard(wide, 20, 21, 0, 1);
-        Due.faults("the place is that of the op that goes", z, wide, BEHIND, 0);
-        z.guard(wide, 0, 1, 0, 1);
-        Due.gives("guarded there", z, wide, 8);
-    }
-
-    private static void guardsAtCalls() {
-        StoryClasses x = new StoryClasses();
-        int inner = Due.tell(x, 1, 0, 6, 0, 0, 5, 0, 21, 0, 0);
-        int middle = Due.tell(x, 1, 19, inner, 0, 20, 0, 0);
-        int outer = Due.tell(x, 1, 0, 1, 0, 19, middle, 0, 20, 0, 0, 2, 0, 0, 20, 0, 0);
-        Due.due("comes out", x.run(outer, 0, 0), 1);
-        told("came first", x, OWN, inner, 2, 6, 1, 0, 0, 3);
-        Due.due("number", x.number(), 5);
-        x.guard(outer, 1, 2, OWN, 3);
-        Due.gives("taken at the call", x, outer, 5);
-        told("taken", x, 0, NONE, NONE, 8, 1, 1, 0, 3);
-        x.guard(middle, 0, 1, ZERO, 1);
-        Due.gives("not by another code", x, outer, 5);
-        x.guard(middle, 0, 1, 0, 1);
-        Due.gives("the inner one first", x, outer, OWN);
-    }
-
-    private static void lastAfterReturn() {
-        StoryClasses x = new StoryClasses();
-        int leaves = Due.tell(x, 1, 0, 4, 0, 0, 3, 0, 20, 0, 0, 0, 8, 0, 26, 0, 0, 22, 0, 0);
-        x.last(leaves, 3);
-        Due.gives("what was put aside", x, leaves, 3);
-        told("last", x, 0, NONE, NONE, 6, 0, 0, 1, 1);
-        Due.due("it was done", x.output(0), 8);
-        int empty = Due.tell(x, 1, 0, 4, 0, 0, 3, 0, 20, 0, 0, 2, 0, 0, 22, 0, 0);
-        x.last(empty, 3);
-        Due.faults("the pile is emptied", x, empty, 8, 3);
-        int again = Due.tell(x, 1, 0, 3, 0, 20, 0, 0, 0, 4, 0, 20, 0, 0);
-        x.last(again, 2);
-        Due.gives("a return in its place", x, again, 4);
-        x.last(again, NONE);
-        Due.gives("no last", x, again, 3);
-        told("no last", x, 0, NONE, NONE, 2, 0, 0, 0, 1);
-    }
-
-    private static void lastAfterFault() {
-        StoryClasses x = new StoryClasses();
-        int leaves = Due.tell(x, 1, 0, 9, 0, 21, 0, 0, 0, 8, 0, 26, 0, 0, 22, 0, 0);
-        x.last(leaves, 2);
-        Due.faults("what was put aside", x, leaves, OWN, 1);
-        Due.due("its number", x.number(), 9);
-        told("last", x, OWN, leaves, 1, 5, 1, 0, 1, 1);
-        Due.due("it was done", x.output(0), 8);
-        x.guard(leaves, 4, 5, 0, 2);
-        Due.faults("no guard is asked at a leave", x, leaves, OWN, 1);
-        int returns = Due.tell(x, 1, 0, 3, 0, 20, 0, 0, 22, 0, 0);
-        x.last(returns, 2);
-        Due.gives("nothing of that is put aside in the next run", x, returns, 3);
-        int refused = Due.tell(x, 1, 0, 9, 0, 21, 0, 0, 22, 0, 0);
-        x.guard(refused, 1, 2, 0, 2);
-        Due.faults("a handler's leave, when last has not begun", x, refused, BEHIND, 2);
-    }
-
-    private static void lastReplaces() {
-        StoryClasses x = new StoryClasses();
-        int other = Due.tell(x, 1, 0, 9, 0, 21, 0, 0, 14, 0, 0, 22, 0, 0);
-        x.last(other, 2);
-        Due.faults("a fault in last goes in its place", x, other, NOTHING, 2);
-        told("both counted", x, NOTHING, other, 2, 3, 2, 0, 1, 1);
-        int returns = Due.tell(x, 1, 0, 9, 0, 21, 0, 0, 0, 5, 0, 20, 0, 0);
-        x.last(returns, 2);
-        Due.gives("a return in last goes in its place", x, returns, 5);
-        int guarded = Due.tell(x, 1, 0, 9, 0, 21, 0, 0, 14, 0, 0, 22, 0, 0);
-        x.last(guarded, 2);
-        x.guard(guarded, 2, 3, NOTHING, 3);
-        Due.faults("one that a guard takes does not", x, guarded, OWN, 1);
-        told("taken", x, OWN, guarded, 1, 4, 2, 1, 1, 1);
-    }
-
-    private static void lastThatCannot() {
-        StoryClasses x = new StoryClasses();
-        int none = Due.tell(x, 1, 0, 3, 0, 20, 0, 0);
-        x.last(none, 2);
-        Due.gives("no op at its place", x, none, 3);
-        told("no op at its place", x, 0, NONE, NONE, 2, 0, 0, 0, 1);
-        x.op(none, 0, 4, 0);
-        x.op(none, 20, 0, 0);
-        Due.gives("now there is", x, none, 4);
-        int walked = Due.tell(x, 1, 0, 3, 0, 22, 0, 0, 0, 6, 0, 20, 0, 0);
-        x.last(walked, 0);
-        Due.faults("to walk in is not to begin", x, walked, BEHIND, 1);
-        told("but the fault begins it", x, BEHIND, walked, 1, 4, 1, 0, 1, 1);
-    }
-
-    private static void lastPerOpening() {
-        StoryClasses x = new StoryClasses();
-        // LOCAL 0 above 0: calls itself with one less, RETURNS that; LAST prints LOCAL 0.
-        int self = Due.tell(x, 1, 1, 0, 0, 11, 7, 0, 1, 0, 0, 0, 1, 0, 4, 0, 0, 19, 0, 1, 20, 0, 0,
-            0, 40, 0, 20, 0, 0, 1, 0, 0, 26, 0, 0, 22, 0, 0);
-        x.last(self, 9);
-        Due.due("run", x.run(self, 3, 0), 0);
-        Due.due("result", x.result(), 40);
-        Due.due("each of them", x.told(6), 4);
-        for (int k = 0; k < 4; k++) Due.due("the inner one first", x.output(k), k);
-        Due.due("run again", x.run(self, 1, 0), 0);
-        Due.due("each of them", x.told(6), 2);
-    }
-
-    private static void lastBetweenCalls() {
-        StoryClasses x = new StoryClasses();
-        int inner = Due.tell(x, 1, 0, 0, 0, 0, 0, 0, 6, 0, 0, 20, 0, 0, 22, 0, 0);
-        int outer = Due.tell(x, 1, 19, inner, 0, 20, 0, 0, 0, 8, 0, 26, 0, 0, 26, 0, 0, 20, 0, 0);
-        x.last(inner, 4);
-        x.guard(outer, 0, 1, ZERO, 4);
-        Due.gives("left with a fault, taken at the call", x, outer, 0);
-        Due.due("its code", x.output(0), ZERO);
-        told("taken", x, 0, NONE, NONE, 4 + 1 + 2, 1, 1, 1, 2);
-        int plain = Due.tell(x, 1, 19, inner, 0, 20, 0, 0, 0, 8, 0, 26, 0, 0, 22, 0, 0);
-        x.last(plain, 2);
-        Due.due("through two lasts", x.run(plain, 0, 0), 1);
-        told("it came first in the inner one", x, ZERO, inner, 2, 8, 1, 0, 2, 2);
+        int one = Due.tell(x, 2, "1 0; 26; 1 1; 26; 0 -5; 26; 0 0; 20");
+        Due.due("run", x.run(one, MOST, LEAST), 0);
+        Due.due("0", x.output(0), MOST);
+        Due.due("1", x.output(1), LEAST);
+        Due.due("2", x.output(2), -5);
+        Due.says("Promise 18", "0: there is none such.");
+        for (int i : new int[] {MIN, -1, 3, 59, 60, MAX}) Due.due("" + i, x.output(i), 0);
+        // Sixty, and then fewer again.
+        int loop = Due.tell(x, 1, "1 0; 26; 10 0");
+        x.run(loop, 8, 0);
+        Due.due("the last", x.output(59), 8);
+        for (int i : new int[] {MIN, -1, 60, 99, MAX}) Due.due("" + i, x.output(i), 0);
+        x.run(one, 1, 2);
+        for (int i : new int[] {3, 59, 60}) Due.due("" + i, x.output(i), 0);
+        Due.due("before any", new StoryClasses().output(0), 0);
     }
 }
