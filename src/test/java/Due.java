@@ -17,6 +17,7 @@ final class Due {
     private static void closeSentence() {
         if (!sentence.isEmpty() && asked == askedBefore) wrong("nothing is looked at");
         askedBefore = asked;
+        sentence = "";
     }
 
     private static void wrong(String what) {

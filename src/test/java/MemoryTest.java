@@ -70,9 +70,28 @@ final class MemoryTest {
         Due.due("in the place of another", x.row(11, 5, 12), 12);
         for (int i = 0; i < 12; i++) Due.due("0 again", x.item(11, i), 0);
         for (int i = 0; i < 12; i++) Due.due("the other place stays", x.item(3, i), 9);
+        for (int i = 0; i < 12; i++) x.put(11, i, 8);
         Due.due("fewer", x.row(11, 5, 1), 1);
-        Due.due("more", x.row(11, 5, 2), 2);
-        Due.due("0", x.item(11, 1), 0);
+        Due.due("0 again", x.item(11, 0), 0);
+        Due.due("more", x.row(11, 5, 12), 12);
+        for (int i = 0; i < 12; i++) Due.due("0 again", x.item(11, i), 0);
+        eachItsOwn();
+    }
+
+    /** All twelve are there, and each becomes a new one: the others stay. */
+    private static void eachItsOwn() {
+        for (int r = 0; r < 12; r++) {
+            StoryClasses x = new StoryClasses();
+            for (int k = 0; k < 12; k++) {
+                x.row(k, 5, 12);
+                x.put(k, 11, 100 + k);
+            }
+            Due.due("row", x.row(r, 1, 12), 12);
+            for (int k = 0; k < 12; k++) {
+                Due.due("row " + k, x.item(k, 11), k == r ? 0 : 100 + k);
+                Due.due("lane of " + k, x.about(k, 1), k == r ? 1 : 5);
+            }
+        }
     }
 
     private static void rowRefuses() {

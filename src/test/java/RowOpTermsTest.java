@@ -130,8 +130,11 @@ final class RowOpTermsTest {
             for (int i = 0; i < 12; i++) Due.due("0", x.item(0, i), 0);
             Due.due("the other place", x.item(3, 2), 9);
             Due.due("is another one", x.about(3, 2), 3);
+            for (int i = 0; i < 12; i++) x.put(0, i, 7);
             Due.due("none", code(x, renew, 0, 0), 0);
             Due.due("none", x.about(0, 0), 0);
+            Due.due("12 again", code(x, renew, 12, 0), 0);
+            for (int i = 0; i < 12; i++) Due.due("0 again", x.item(0, i), 0);
             Due.due("one that was missing", code(x, "0 1; 15 2 " + lane + "; 0 1; 20", 0, 0), 0);
             Due.due("one that was missing", x.about(2, 0), 1);
         }
