@@ -34,7 +34,8 @@ final class CallOpTermsTest {
     }
 
     private static void callsWithNumbers() {
-        Due.says("Terms 3", "19 takes b numbers and calls ROUTINE a: they are its LOCALS 0, 1, .. (others "
+        Due.says("Terms 3",
+            "19 takes b numbers and calls ROUTINE a: they are its LOCALS 0, 1, .. (others "
             + "are 0); what it RETURNS is laid.");
         StoryClasses x = new StoryClasses();
         int six = digits(x, 6);
@@ -49,8 +50,8 @@ final class CallOpTermsTest {
         int one = digits(x, 1);
         Due.gives(x, "0 7; 19 " + one + " 1; 19 " + one + " 1; 20", 7);
         // A ROUTINE that was open before, with other LOCALS, leaves nothing in them.
-        Due.gives(x, "0 1; 0 2; 0 3; 0 4; 0 5; 0 6; 19 " + six + " 6; 26; 0 9; 19 " + six + " 1; 20",
-            900000);
+        Due.gives(x, "0 1; 0 2; 0 3; 0 4; 0 5; 0 6; 19 " + six + " 6; 26; "
+            + "0 9; 19 " + six + " 1; 20", 900000);
     }
 
     private static void callFaults() {
@@ -147,12 +148,14 @@ final class CallOpTermsTest {
     }
 
     private static void messages() {
-        Due.says("Terms 3", "23 of t: MESSAGE a goes to THING t (1, 6, 7, 8: of t, n): NOTHING (no such "
+        Due.says("Terms 3",
+            "23 of t: MESSAGE a goes to THING t (1, 6, 7, 8: of t, n): NOTHING (no such "
             + "THING), what the MESSAGE tells; the answer is laid.");
         for (int message = 0; message < 9; message++) {
             StoryClasses x = six();
             boolean two = message == 1 || message >= 6;
-            int routine = Due.tell(x, 1, "0 8; 1 0; " + (two ? "0 3; " : "") + "23 " + message + "; 20");
+            String laid = "0 8; 1 0; " + (two ? "0 3; " : "");
+            int routine = Due.tell(x, 1, laid + "23 " + message + "; 20");
             for (long t : new long[] {-1, 6, 1L << 32, MOST, LEAST}) {
                 Due.due("run", x.run(routine, t, 0), 1);
                 Due.due("message " + message + " to " + t, x.told(0), NOTHING);
@@ -175,7 +178,8 @@ final class CallOpTermsTest {
     }
 
     private static void shelves() {
-        Due.says("Terms 3", "24 of s, i, t: place i of the SHELF of THING s becomes THING t (-1: empty): "
+        Due.says("Terms 3",
+            "24 of s, i, t: place i of the SHELF of THING s becomes THING t (-1: empty): "
             + "NOTHING (of s; of t), INDEX, STORE (it has no place for such).");
         StoryClasses x = six();
         Due.due("the first place", shelve(x, 0, 0, 5), 0);
@@ -226,7 +230,8 @@ final class CallOpTermsTest {
             Due.due("run", x.run(look, v[0], v[1]), 1);
             Due.due("no such thing", x.told(0), NOTHING);
         }
-        long[][] out = {{0, 4}, {0, -1}, {1, 3}, {2, 3}, {3, 3}, {4, 2}, {5, 2}, {0, 1L << 32}, {0, MOST}};
+        long[][] out = {{0, 4}, {0, -1}, {1, 3}, {2, 3}, {3, 3}, {4, 2}, {5, 2}, {0, 1L << 32},
+            {0, MOST}};
         for (long[] v : out) {
             Due.due("run", x.run(look, v[0], v[1]), 1);
             Due.due("no such place", x.told(0), INDEX);
@@ -260,14 +265,16 @@ final class CallOpTermsTest {
     }
 
     private static void keeps() {
-        Due.says("Terms 3", "27 KEEPS all ROWS (one in several places as one), COUNT, MARKS and SHELVES of "
+        Due.says("Terms 3",
+            "27 KEEPS all ROWS (one in several places as one), COUNT, MARKS and SHELVES of "
             + "all THINGS:");
         StoryClasses x = new StoryClasses();
         for (int t = 0; t < 12; t++) x.thing(t % 6);
         for (int r = 0; r < 12; r++) x.row(r, r % 8, r);
         x.share(3, 5);
         x.put(11, 10, 1234);
-        int change = Due.tell(x, 2, "1 0; 1 1; 23 1; 26; 1 0; 1 1; 23 6; 26; 1 0; 0 1; 1 0; 24; 0 1; 20");
+        int change = Due.tell(x, 2, "1 0; 1 1; 23 1; 26; 1 0; 1 1; 23 6; 26; 1 0; 0 1; 1 0; 24; "
+            + "0 1; 20");
         int crate = Due.tell(x, 2, "1 0; 1 1; 23 7; 20");
         int lantern = Due.tell(x, 2, "1 0; 1 1; 23 8; 20");
         for (int t = 0; t < 12; t++) x.run(change, t, t - 4);
@@ -290,7 +297,8 @@ final class CallOpTermsTest {
     }
 
     private static void keepRefuses() {
-        Due.says("Terms 3", "ARGUMENT (3 are KEPT, or it would be the 7th KEEPING in this RUN); lays how "
+        Due.says("Terms 3",
+            "ARGUMENT (3 are KEPT, or it would be the 7th KEEPING in this RUN); lays how "
             + "many are KEPT.");
         StoryClasses x = new StoryClasses();
         int keep = Due.tell(x, 1, "27; 20");

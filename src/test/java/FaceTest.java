@@ -87,7 +87,8 @@ final class FaceTest {
         String code = text.replaceAll("(?s)/\\*.*?\\*/", "").replaceAll("//[^\n]*", "");
         String[] left = {"throw", "throws", "try", "catch", "finally", "synchronized", "assert",
             "package", "record", "volatile", "transient", "native", "Object",
-            "System\\.(?!arraycopy)", "\\w+Exact", "NaN", "static\\s*\\{", "import (?!java\\.util\\.Arrays;)"};
+            "System\\.(?!arraycopy)", "\\w+Exact", "NaN", "static\\s*\\{",
+            "import (?!java\\.util\\.Arrays;)"};
         for (String word : left) {
             boolean found = Pattern.compile("(?<!\\w)" + word + "(?!\\w)").matcher(code).find();
             Due.holds("without " + word, !found);

@@ -31,7 +31,8 @@ final class MemoryTermsTest {
     }
 
     private static void codes() {
-        Due.says("Terms 1", "FAULTS have CODES: 1 NOTHING, 2 INDEX, 3 CAST, 4 STORE, 5 SIZE, 6 ZERO, "
+        Due.says("Terms 1",
+            "FAULTS have CODES: 1 NOTHING, 2 INDEX, 3 CAST, 4 STORE, 5 SIZE, 6 ZERO, "
             + "7 ARGUMENT, 8 PILE, 9 DEEP, 10 BEHIND, 11 OWN, 12 DUMB;");
         Due.faults(small(), "14 1", 1, 0);
         Due.faults(small(), "0 3; 12 0 4", 2, 1);
@@ -66,8 +67,8 @@ final class MemoryTermsTest {
         StoryClasses x = small();
         Due.faults(x, "0 0; 0 10; 23 1", 11, 2);
         Due.due("what a crate throws", x.number(), 50);
-        String[] others = {"14 1", "0 3; 12 0 4", "0 0; 12 0 5", "0 0; 0 0; 0 1; 24", "0 -1; 15 0 4",
-            "0 1; 0 0; 6", "0 13; 15 0 4", "26", "19 0 0", "10 9", "0 1; 23 3"};
+        String[] others = {"14 1", "0 3; 12 0 4", "0 0; 12 0 5", "0 0; 0 0; 0 1; 24",
+            "0 -1; 15 0 4", "0 1; 0 0; 6", "0 13; 15 0 4", "26", "19 0 0", "10 9", "0 1; 23 3"};
         for (String ops : others) {
             StoryClasses y = small();
             int routine = Due.tell(y, 1, ops);

@@ -103,7 +103,9 @@ final class MemoryTest {
             for (int n : new int[] {-1, 0, 12, 13}) Due.due("row " + r, x.row(r, 4, n), BAD);
         }
         for (int lane : new int[] {MIN, -1, 8, MAX}) {
-            for (int n : new int[] {-1, 0, 12, 13}) Due.due("lane " + lane, x.row(11, lane, n), BAD);
+            for (int n : new int[] {-1, 0, 12, 13}) {
+                Due.due("lane " + lane, x.row(11, lane, n), BAD);
+            }
         }
         Due.says("Promise 2", "-10 less the FAULT: SIZE, ARGUMENT (as of 15).");
         for (int lane = 0; lane < 8; lane++) {

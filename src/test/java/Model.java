@@ -230,7 +230,8 @@ final class Model {
             Object row = rows[r];
             if (row == null) continue;
             if (!copies.containsKey(row)) {
-                Object c = Array.newInstance(row.getClass().getComponentType(), Array.getLength(row));
+                Class<?> lane = row.getClass().getComponentType();
+                Object c = Array.newInstance(lane, Array.getLength(row));
                 System.arraycopy(row, 0, c, 0, Array.getLength(row));
                 copies.put(row, c);
             }

@@ -290,7 +290,8 @@ final class PileTermsTest {
     }
 
     private static void behind() {
-        Due.says("Terms 3", "BEHIND: there is no OP at that place; the place of this FAULT is that of "
+        Due.says("Terms 3",
+            "BEHIND: there is no OP at that place; the place of this FAULT is that of "
             + "the OP that goes there.)");
         StoryClasses x = new StoryClasses();
         Due.faults(x, "0 1", BEHIND, 0);

@@ -58,7 +58,9 @@ final class RoutineTest {
         StoryClasses x = new StoryClasses();
         Due.due("none yet", x.op(0, 0, 0, 0), BAD);
         x.routine(1);
-        for (int k : new int[] {MIN, -1, 1, 12, MAX}) Due.due("routine " + k, x.op(k, 0, 0, 0), BAD);
+        for (int k : new int[] {MIN, -1, 1, 12, MAX}) {
+            Due.due("routine " + k, x.op(k, 0, 0, 0), BAD);
+        }
         Due.says("Promise 11", "op is not 0 to 29;");
         for (int op : new int[] {MIN, -1, 30, MAX}) Due.due("op " + op, x.op(0, op, 0, 0), BAD);
         Due.due("none came", x.count(5, 0), 0);
@@ -183,7 +185,8 @@ final class RoutineTest {
     }
 
     private static void last() {
-        Due.says("Promise 13", "The LAST of a ROUTINE begins at a place (0 to 29), or there is none (NONE):");
+        Due.says("Promise 13",
+            "The LAST of a ROUTINE begins at a place (0 to 29), or there is none (NONE):");
         StoryClasses x = new StoryClasses();
         Due.tell(x, 1, "0 1; 20; 0 2; 20");
         x.routine(1);

@@ -36,7 +36,8 @@ final class RowOpTermsTest {
     }
 
     private static void reads() {
-        Due.says("Terms 3", "12 of i: lays ITEM i of ROW a, held as LANE b: NOTHING (it is MISSING), "
+        Due.says("Terms 3",
+            "12 of i: lays ITEM i of ROW a, held as LANE b: NOTHING (it is MISSING), "
             + "CAST (it has another LANE), INDEX.");
         for (int lane = 0; lane < 8; lane++) {
             for (int b = 0; b < 8; b++) {
@@ -107,7 +108,8 @@ final class RowOpTermsTest {
     }
 
     private static void renews() {
-        Due.says("Terms 3", "15 of n: ROW a becomes a new one of LANE b with n ITEMS (0): SIZE (below 0), "
+        Due.says("Terms 3",
+            "15 of n: ROW a becomes a new one of LANE b with n ITEMS (0): SIZE (below 0), "
             + "ARGUMENT (above 12).");
         for (int lane = 0; lane < 8; lane++) {
             StoryClasses x = rows(5);
@@ -191,7 +193,8 @@ final class RowOpTermsTest {
         (1L << 53) + 1, (1L << 60) + (1L << 36) + 1, MOST, LEAST, LEAST + 1};
 
     private static void asks() {
-        Due.says("Terms 3", "17 of i: lays ITEM i of ROW a, ASKED as LANE b (as something of LANE b, then "
+        Due.says("Terms 3",
+            "17 of i: lays ITEM i of ROW a, ASKED as LANE b (as something of LANE b, then "
             + "as a number):");
         for (int lane = 0; lane < 8; lane++) {
             for (int b = 0; b < 8; b++) {
@@ -209,7 +212,8 @@ final class RowOpTermsTest {
     }
 
     private static void askRefuses() {
-        Due.says("Terms 3", "NOTHING, INDEX, ARGUMENT, unless b is its LANE, or its LANE is 1 to 6 and "
+        Due.says("Terms 3",
+            "NOTHING, INDEX, ARGUMENT, unless b is its LANE, or its LANE is 1 to 6 and "
             + "goes INTO b.");
         for (int lane = 0; lane < 8; lane++) {
             for (int b = 0; b < 8; b++) {
@@ -229,7 +233,8 @@ final class RowOpTermsTest {
     }
 
     private static void puts() {
-        Due.says("Terms 3", "18 of i, x: x as something of LANE b is PUT into the ITEM, as that number:");
+        Due.says("Terms 3",
+            "18 of i, x: x as something of LANE b is PUT into the ITEM, as that number:");
         for (int lane = 0; lane < 8; lane++) {
             for (int b = 0; b < 8; b++) {
                 if (!goes(b, lane)) continue;
@@ -265,10 +270,11 @@ final class RowOpTermsTest {
     }
 
     private static void into() {
-        Due.says("Terms 3", "(1 goes INTO 2, 4, 5, 6, 7; 2 INTO 4 to 7; 3 INTO 4 to 7; 4 INTO 5 to 7; "
+        Due.says("Terms 3",
+            "(1 goes INTO 2, 4, 5, 6, 7; 2 INTO 4 to 7; 3 INTO 4 to 7; 4 INTO 5 to 7; "
             + "5 INTO 6, 7; 6 INTO 7.)");
-        String[] pairs = {"12", "14", "15", "16", "17", "24", "25", "26", "27", "34", "35", "36", "37",
-            "45", "46", "47", "56", "57", "67"};
+        String[] pairs = {"12", "14", "15", "16", "17", "24", "25", "26", "27", "34", "35", "36",
+            "37", "45", "46", "47", "56", "57", "67"};
         int asked = 0, put = 0;
         for (int from = 0; from < 8; from++) {
             for (int to = 0; to < 8; to++) {
@@ -280,8 +286,8 @@ final class RowOpTermsTest {
                 Due.due(from + " asked as " + to, code(x, "0 0; 17 0 " + to + "; 20", 0, 0),
                     listed ? 0 : ARGUMENT);
                 if (x.told(0) == 0) asked++;
-                Due.due(from + " put into " + to, code(x, "0 0; 0 1; 18 1 " + from + "; 0 1; 20", 0, 0),
-                    listed ? 0 : ARGUMENT);
+                String feed = "0 0; 0 1; 18 1 " + from + "; 0 1; 20";
+                Due.due(from + " put into " + to, code(x, feed, 0, 0), listed ? 0 : ARGUMENT);
                 if (x.told(0) == 0) put++;
             }
         }

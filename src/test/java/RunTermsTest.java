@@ -32,7 +32,8 @@ final class RunTermsTest {
     }
 
     private static void twoNumbers() {
-        Due.says("Terms 4", "A RUN calls a ROUTINE with two numbers, LOCALS 0 and 1 (if it has that).");
+        Due.says("Terms 4",
+            "A RUN calls a ROUTINE with two numbers, LOCALS 0 and 1 (if it has that).");
         for (int locals = 1; locals < 7; locals++) {
             StoryClasses x = new StoryClasses();
             StringBuilder ops = new StringBuilder();
@@ -287,7 +288,8 @@ final class RunTermsTest {
     }
 
     private static void whatAGuardDoes() {
-        Due.says("Terms 4", "the PILE is emptied, NUMBER and CODE are laid, it goes on at the handler.");
+        Due.says("Terms 4",
+            "the PILE is emptied, NUMBER and CODE are laid, it goes on at the handler.");
         StoryClasses x = new StoryClasses();
         int own = Due.tell(x, 1, Due.times(7, "0 1") + "; 0 -77; 21; 26; 26; 26");
         x.guard(own, 8, 9, OWN, 9);
@@ -376,7 +378,8 @@ final class RunTermsTest {
     }
 
     private static void whatLastDoes() {
-        Due.says("Terms 4", "LAST BEGINS: the FAULT is put aside, the PILE emptied, it goes on there.");
+        Due.says("Terms 4",
+            "LAST BEGINS: the FAULT is put aside, the PILE emptied, it goes on there.");
         StoryClasses x = new StoryClasses();
         int routine = Due.tell(x, 2, "0 4; 2 1; 0 1; 0 9; 21; 1 1; 26; 22");
         x.last(routine, 5);
@@ -446,7 +449,8 @@ final class RunTermsTest {
     }
 
     private static void leaves() {
-        Due.says("Terms 4", "LEAVE: when LAST has begun, the ROUTINE ends with what was put aside (no GUARD "
+        Due.says("Terms 4",
+            "LEAVE: when LAST has begun, the ROUTINE ends with what was put aside (no GUARD "
             + "is asked);");
         StoryClasses x = new StoryClasses();
         int returns = Due.tell(x, 1, "0 3; 20; 0 9; 22; 0 8; 20");
@@ -500,7 +504,8 @@ final class RunTermsTest {
     }
 
     private static void inItsPlace() {
-        Due.says("Terms 4", "(So a RETURN, or a FAULT that none TAKES, in LAST goes in the place of what was "
+        Due.says("Terms 4",
+            "(So a RETURN, or a FAULT that none TAKES, in LAST goes in the place of what was "
             + "put aside.)");
         StoryClasses x = new StoryClasses();
         int returned = Due.tell(x, 1, "0 3; 20; 0 4; 20; 22");

@@ -99,7 +99,8 @@ final class RunTest {
     }
 
     private static void toldOfTheFault() {
-        Due.says("Promise 16", "Of the latest RUN: 0 the CODE of the FAULT by which it ended (0: none),");
+        Due.says("Promise 16",
+            "Of the latest RUN: 0 the CODE of the FAULT by which it ended (0: none),");
         StoryClasses x = three();
         int[] codes = {0, OWN, 0};
         for (int k = 0; k < 3; k++) {

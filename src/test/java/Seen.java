@@ -1,4 +1,4 @@
-/** All that can be seen of an object without changing it, as a text, so that two can be compared. */
+/** All that can be seen of an object without changing it, as a text: two can be compared. */
 final class Seen {
     private static final int ROWS = 12, ITEMS = 12, THINGS = 12, ROUTINES = 12;
 

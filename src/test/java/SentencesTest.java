@@ -16,6 +16,8 @@ import java.util.stream.Stream;
 final class SentencesTest {
     private static final Path DOCUMENT = Path.of("../shared/DOC.md");
     private static final Path TESTS = Path.of("src/test/java");
+    private static final Pattern PROMISE =
+        Pattern.compile("## Promise (\\d+): \\w[\\w ]*?`[^`]*`: (.*?)(?= ## )");
     private static final Pattern SAYS =
         Pattern.compile("Due\\.says\\(\\s*\"([^\"]*)\",\\s*\"([^\"]*)\"\\)");
 
@@ -48,9 +50,11 @@ final class SentencesTest {
         String[] parts = terms.split("=+ (?=\\d )");
         sections.put("Terms", parts[0]);
         for (int k = 1; k < parts.length; k++) {
-            sections.put("Terms " + k, parts[k].replaceFirst("^\\d ", "").replaceAll("```(text)?", ""));
+            String text = parts[k].replaceFirst("^\\d ", "").replaceAll("```(text)?", "");
+            sections.put("Terms " + k, text);
         }
-        Matcher m = Pattern.compile("## Promise (\\d+): \\w[\\w ]*?`[^`]*`: (.*?)(?= ## )").matcher(doc);
+        // A heading, then the call with its signature, then what it promises.
+        Matcher m = PROMISE.matcher(doc);
         while (m.find()) sections.put("Promise " + m.group(1), m.group(2));
         return sections;
     }

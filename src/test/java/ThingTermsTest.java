@@ -124,7 +124,8 @@ final class ThingTermsTest {
     }
 
     private static void ownMarks() {
-        Due.says("Terms 2", "A CRATE (so also a CAGE, a CART) and a LANTERN have an OWN MARK besides "
+        Due.says("Terms 2",
+            "A CRATE (so also a CAGE, a CART) and a LANTERN have an OWN MARK besides "
             + "(likewise).");
         StoryClasses x = six();
         for (int t = 0; t < 6; t++) {
@@ -339,7 +340,8 @@ final class ThingTermsTest {
             if (isCrate(t)) answers(x, OWN_MARK, t, 0, 20 + t);
             else refuses(x, OWN_MARK, t, 0, CAST);
         }
-        Due.says("Terms 2", "6, 7, 8 n: MARK, OWN MARK of a CRATE, OWN MARK of a LANTERN becomes n");
+        Due.says("Terms 2",
+            "6, 7, 8 n: MARK, OWN MARK of a CRATE, OWN MARK of a LANTERN becomes n");
         StoryClasses y = six();
         for (int t = 0; t < 6; t++) {
             Due.due("6", y.run(SET_MARK, t, 30 + t), 0);
