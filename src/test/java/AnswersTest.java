@@ -264,5 +264,8 @@ final class AnswersTest {
             Due.due("put", x.put(0, 0, -k), 1);
             Due.due("item", x.item(0, 0), -k);
         }
+        Due.says("What it is", "what later calls answer is free");
+        for (int k = 0; k < 2000; k++) anyNumbers(x, k % 13, k % 31);
+        Due.holds("none threw", true);
     }
 }

@@ -6,6 +6,7 @@ import java.nio.file.Files;
 import java.nio.file.Path;
 import java.util.Set;
 import java.util.TreeSet;
+import java.util.regex.Matcher;
 import java.util.regex.Pattern;
 
 /** The public face, and what LANGUAGE.md leaves out and can be seen from outside. */
@@ -17,9 +18,14 @@ final class FaceTest {
         "int last(int,int)", "int run(int,long,long)", "long result()", "int told(int)",
         "long number()", "long output(int)", "int count(int,int)", "int forget()");
 
+    private static final Path DOCUMENT = Path.of("../shared/DOC.md");
+    private static final Pattern TOLD =
+        Pattern.compile("(?m)^    public (\\w+ \\w+\\()([^)]*)\\);");
+
     private FaceTest() { }
 
     public static void main(String[] args) throws IOException {
+        document();
         members();
         inside();
         words();
@@ -27,6 +33,21 @@ final class FaceTest {
         Due.due("BAD", StoryClasses.BAD, -1000000);
         Due.due("FULL", StoryClasses.FULL, -1000001);
         Due.end();
+    }
+
+    /** The face that is looked at is the document's. */
+    private static void document() throws IOException {
+        if (!Files.exists(DOCUMENT)) {
+            System.out.println(DOCUMENT + " is not there: its face is not looked at");
+            return;
+        }
+        Set<String> told = new TreeSet<>();
+        Matcher m = TOLD.matcher(Files.readString(DOCUMENT));
+        while (m.find()) {
+            String types = m.group(2).replaceAll(" \\w+(?=,|$)", "").replace(", ", ",");
+            told.add(m.group(1) + types + ")");
+        }
+        Due.holds("the document's face is " + told, told.equals(FACE));
     }
 
     private static String signature(Method m) {
